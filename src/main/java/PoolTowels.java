@@ -60,13 +60,11 @@ public final class PoolTowels {
     private final Course trial = new Course(pool, false);
     private final Giving giving = new Giving(pool);
     private final Changes changes = new Changes();
-    private final Image[] images = new Image[MOST_IMAGES];
     private final int[] morning = new int[MOST_GUESTS];
     private final int[] tally = new int[MOST_GUESTS];
     private final int[] refused = new int[3];
     private Stillness stillness;
     private int fed;
-    private int imageCount;
     private int theDay;
     private boolean looked;
 
@@ -97,8 +95,7 @@ public final class PoolTowels {
         habits.clear();
         lines.clear();
         giving.forget();
-        changes.size = 0;
-        imageCount = 0;
+        changes.clear();
         theDay = 0;
         forgetDays();
         return pool.guests;
@@ -532,29 +529,18 @@ public final class PoolTowels {
     }
 
     public int image() {
-        if (imageCount == MOST_IMAGES) {
-            return NONE;
-        }
-        if (images[imageCount] == null) {
-            images[imageCount] = new Image();
-        }
-        images[imageCount].keep(pool, changes, theDay);
-        imageCount++;
-        return imageCount;
+        return changes.keepImage(pool, theDay) ? changes.imageCount : NONE;
     }
 
     public int restore() {
-        if (imageCount == 0) {
+        Image latest = changes.takeImage();
+        if (latest == null) {
             return NONE;
         }
-        imageCount--;
-        Image latest = images[imageCount];
-        if (latest != null) {
-            latest.giveBack(pool, changes);
-            theDay = latest.theDay;
-        }
+        latest.giveBack(pool, changes);
+        theDay = latest.theDay;
         forgetDays();
-        return imageCount;
+        return changes.imageCount;
     }
 
     public int status(int what) {
@@ -564,7 +550,7 @@ public final class PoolTowels {
     public int count(int what) {
         switch (what) {
             case 0:
-                return imageCount;
+                return changes.imageCount;
             case 1:
                 return fed;
             case 2:
@@ -1840,15 +1826,22 @@ public final class PoolTowels {
         }
     }
 
-    /** The changes that can be undone, with what was ahead of each. */
+    /** The changes that can be undone, with what was ahead of each, and the IMAGES. */
     private static final class Changes {
         static final int HOTEL = 0;
         static final int HIRE = 1;
         static final int WAKES = 2;
         private static final int WIDTH = 3;
 
-        private final int[] rows = new int[MOST_CHANGES * WIDTH];
+        final int[] rows = new int[MOST_CHANGES * WIDTH];
+        private final Image[] images = new Image[MOST_IMAGES];
         int size;
+        int imageCount;
+
+        void clear() {
+            size = 0;
+            imageCount = 0;
+        }
 
         boolean add(int kind, int a, int b) {
             if (size >= MOST_CHANGES) {
@@ -1882,33 +1875,53 @@ public final class PoolTowels {
             }
         }
 
-        void copy(Changes other) {
-            System.arraycopy(other.rows, 0, rows, 0, rows.length);
-            size = other.size;
+        boolean keepImage(Pool pool, int day) {
+            if (imageCount >= MOST_IMAGES) {
+                return false;
+            }
+            // Made once for each place, then used again.
+            if (images[imageCount] == null) {
+                images[imageCount] = new Image();
+            }
+            images[imageCount].keep(pool, this, day);
+            imageCount++;
+            return true;
+        }
+
+        /** The latest IMAGE, which is gone then; null: there is none. */
+        Image takeImage() {
+            if (imageCount == 0) {
+                return null;
+            }
+            imageCount--;
+            return images[imageCount];
         }
     }
 
     /** An IMAGE. */
     private static final class Image {
         private final int[] wake = new int[MOST_GUESTS];
-        private final Changes changes = new Changes();
+        private final int[] rows = new int[MOST_CHANGES * Changes.WIDTH];
+        private int size;
         private int goes;
         private int unused;
         private int price;
         int theDay;
 
-        void keep(Pool pool, Changes now, int day) {
-            System.arraycopy(pool.wake, 0, wake, 0, MOST_GUESTS);
-            changes.copy(now);
+        void keep(Pool pool, Changes changes, int day) {
+            System.arraycopy(pool.wake, 0, wake, 0, wake.length);
+            System.arraycopy(changes.rows, 0, rows, 0, rows.length);
+            size = changes.size;
             goes = pool.goes;
             unused = pool.unused;
             price = pool.price;
             theDay = day;
         }
 
-        void giveBack(Pool pool, Changes now) {
-            System.arraycopy(wake, 0, pool.wake, 0, MOST_GUESTS);
-            now.copy(changes);
+        void giveBack(Pool pool, Changes changes) {
+            System.arraycopy(wake, 0, pool.wake, 0, wake.length);
+            System.arraycopy(rows, 0, changes.rows, 0, rows.length);
+            changes.size = size;
             pool.goes = goes;
             pool.unused = unused;
             pool.price = price;
