@@ -21,6 +21,7 @@ public final class ChairsTest {
         promise34();
         promise35();
         promise36();
+        askedFirst();
         Checks.end();
     }
 
@@ -342,6 +343,13 @@ public final class ChairsTest {
         Feeding.book(x, "0 0 9;");
         Checks.due("34: none", 0, () -> x.fits(0));
         Checks.noElement("34: GUEST 3", () -> x.fits(3));
+        // what was supposed of one is not so for the next
+        PoolTowels z = with("chair 5 5;guest 2 12 20 1;guest 20 21 22 1;guest 20 21 22 1;");
+        Feeding.habit(z, 1, "first + 9");
+        Feeding.habit(z, 2, "20");
+        Feeding.book(z, "2 1 11;");
+        Checks.due("34: no line about GUEST 0", 7, () -> z.fits(0));
+        Checks.due("34: GUEST 1 comes nine HALVES behind GUEST 0", 2, () -> z.fits(1));
         // others go on with theirs, by what he does then
         PoolTowels y = with("chair 5 5;guest 10 12 20 1;guest 11 12 20 1;");
         Feeding.habit(y, 1, "first - 1");
@@ -364,6 +372,28 @@ public final class ChairsTest {
         Feeding.habit(x, 1, "mine - 1");
         Feeding.book(x, "0 1 11;3 1 8;2 1 9;60 1 0;59 0 9;");
         Checks.due("35: by HABITS", 4, x::right);
+    }
+
+    /** Each call knows what it needs, whatever was asked ahead of it. */
+    private static void askedFirst() {
+        String day = THREE + "goes 4;off 2;hire 1;";
+        Checks.due("23: asked first", 38, () -> with(day).given());
+        Checks.due("24: asked first", 1, () -> with(day).gets(1));
+        Checks.due("25: asked first", -2, () -> with(day).waste());
+        Checks.due("26: asked first", 96, () -> with(day).more(9, 9));
+        Checks.due("27: asked first", 2, () -> with(day).want(13));
+        Checks.due("28: asked first", 13, () -> with(day).just(0));
+        Checks.due("28: asked first", 14, () -> with(day).just(1));
+        Checks.due("29: asked first", 40, () -> with(day).off(1));
+        Checks.due("31: asked first", 40, () -> with(day).lot(5, 0));
+        Checks.due("32: asked first", 3, () -> with(day).lucky(0, 5, 3));
+        Checks.due("36: asked first", 3, () -> with(day).early(7));
+        PoolTowels x = with("chair 1 1;guest 0 0 5 0;guest 9 9 10 0;");
+        Checks.due("32: GUEST 1 too", 1, () -> x.lucky(1, 5, 1));
+        Feeding.habit(x, 0, "22");
+        x.day(1);
+        Checks.due("32: on DAY 1 he comes too late", 0, () -> x.lucky(0, 5, 9));
+        Checks.due("28: a CHAIR worth nothing", 0, () -> with("chair 0 0;guest 0 1 5 0;").just(1));
     }
 
     private static void promise36() {

@@ -14,6 +14,7 @@ public final class DaysTest {
         comesTooLate();
         bestChair();
         netAndSums();
+        askedFirst();
         promise16();
         promise17();
         habitsByYesterday();
@@ -177,6 +178,7 @@ public final class DaysTest {
         Checks.due("2b: not one who lies", 0, () -> with("chair 1 1;guest 6 6 14 0;goes 1;off 1;").did(0, 6));
         // nobody goes by in HALF 0, so a towel of HALF 0 is first seen in G
         Checks.due("2b: HALF 0", 3, () -> with("chair 1 1;guest 0 9 14 0;goes 3;off 1;").chair(0, 3));
+        Checks.due("2b: HALF 1", 1, () -> with("chair 1 1;guest 0 9 14 0;goes 1;off 1;").chair(0, 3));
         // one who waits ahead of F may lose the CHAIR that he took so
         PoolTowels x = with("chair 1 1;guest 0 0 3 0;guest 1 9 12 0;goes 5;off 2;");
         did(x, 1, 1, 0, 3, 3, 3, 2, 1, 2);
@@ -222,6 +224,33 @@ public final class DaysTest {
         sums(x, 12, -15, 4, 5, 2, 1);
         Checks.badArgument("15: sums(6)", () -> x.sums(6));
         Checks.badArgument("15: sums(-1)", () -> x.sums(-1));
+    }
+
+    /** Each call knows what it needs, whatever was asked ahead of it. */
+    private static void askedFirst() {
+        String two = "chair 1 1;guest 2 4 9 0;guest 3 4 12 0;";
+        Checks.due("8: asked first", 8, () -> with(two).chair(0, 2));
+        Checks.due("11: asked first", 5, () -> with(two).did(0, 2));
+        Checks.due("12: asked first", 0, () -> with(two).towel(0, 3));
+        Checks.due("13: asked first", 1, () -> with(two).lies(0, 10));
+        Checks.due("14: asked first", 2, () -> with(two).waits(5));
+        Checks.due("15: asked first", 2, () -> with(two).sums(4));
+        PoolTowels x = with(two);
+        Checks.due("13: DAY 0", 1, () -> x.lies(0, 10));
+        Feeding.habit(x, 0, "13");
+        x.day(1);
+        Checks.due("13: DAY 1", 1, () -> x.lies(0, 5));
+        Checks.due("14: DAY 1", 0, () -> x.waits(5));
+        Checks.due("12: DAY 1", -1, () -> x.towel(0, 2));
+        x.day(0);
+        Checks.due("12: DAY 0", 0, () -> x.towel(0, 2));
+        x.wakes(0, 1);
+        Checks.due("12: behind a change", 0, () -> x.towel(0, 1));
+        x.undo();
+        Checks.due("12: undone", -1, () -> x.towel(0, 1));
+        Feeding.pool(x, "chair 1 1;guest 0 0 1 0;");
+        Checks.due("14: of another POOL", 0, () -> x.waits(0));
+        Checks.due("12: of another POOL", -1, () -> x.towel(0, 2));
     }
 
     private static void promise16() {
