@@ -764,17 +764,18 @@ public final class PoolTowels {
     private static final class Pool {
         private static final String WORDS = "chair guest goes off hire";
 
+        // In the order of the document's letters: A, B; U, F, T, C; then G, L, P.
         final int[] ahead = new int[MOST_CHAIRS];
         final int[] behind = new int[MOST_CHAIRS];
         final int[] wake = new int[MOST_GUESTS];
         final int[] from = new int[MOST_GUESTS];
         final int[] till = new int[MOST_GUESTS];
         final int[] cost = new int[MOST_GUESTS];
-        int chairs;
-        int guests;
         int goes;
         int unused;
         int price;
+        int chairs;
+        int guests;
 
         void clear() {
             chairs = 0;
