@@ -77,9 +77,12 @@ public final class RandomRunsTest {
         return random.nextInt(of) == 0;
     }
 
-    /** Mostly a number from least to most, now and then one a little beyond. */
+    /** Mostly a number from least to most, now and then one a little or as far as can be beyond. */
     private int near(int least, int most) {
         if (chance(25)) {
+            if (chance(5)) {
+                return chance(2) ? Integer.MIN_VALUE + upTo(1) : Integer.MAX_VALUE - upTo(1);
+            }
             return chance(2) ? least - 1 - upTo(2) : most + 1 + upTo(2);
         }
         return least + upTo(most - least);
