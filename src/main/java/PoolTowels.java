@@ -458,7 +458,7 @@ public final class PoolTowels {
         for (int owner = 0; owner < pool.guests; owner++) {
             supposed.forget();
             supposed.whose[guest] = owner;
-            if (lines.areSoOf(guest, supposed)) {
+            if (lines.firstNotSo(guest, supposed) == lines.size) {
                 bits |= 1 << owner;
             }
             supposed.whose[guest] = guest;
@@ -467,11 +467,7 @@ public final class PoolTowels {
     }
 
     public int right() {
-        int so = 0;
-        while (so < lines.size && lines.isSo(so, days)) {
-            so++;
-        }
-        return so;
+        return lines.firstNotSo(NONE, days);
     }
 
     public int early(int half) throws IllegalArgumentException {
@@ -1222,19 +1218,19 @@ public final class PoolTowels {
             return text.takeSign(';');
         }
 
-        boolean isSo(int line, Days days) {
-            int at = line * WIDTH;
-            days.reach(kept[at]);
-            return days.halfOf(kept[at], kept[at + 1]) == kept[at + 2];
-        }
-
-        boolean areSoOf(int guest, Days days) {
+        /** The first line about a GUEST (NONE: about any) that is not so; as many as there are, if all are. */
+        int firstNotSo(int guest, Days days) {
             for (int line = 0; line < size; line++) {
-                if (kept[line * WIDTH + 1] == guest && !isSo(line, days)) {
-                    return false;
+                int day = kept[line * WIDTH];
+                int who = kept[line * WIDTH + 1];
+                if (guest == NONE || guest == who) {
+                    days.reach(day);
+                    if (days.halfOf(day, who) != kept[line * WIDTH + 2]) {
+                        return line;
+                    }
                 }
             }
-            return true;
+            return size;
         }
     }
 
@@ -1314,7 +1310,8 @@ public final class PoolTowels {
             free = (1 << pool.chairs) - 1;
             lastSeated = LAST_HALF;
             busy = 0;
-            for (int half = pool.goes; half > 0 && half < HALVES; half += pool.goes) {
+            int step = pool.goes;
+            for (int half = step; step > 0 && half < HALVES; half += step) {
                 busy |= 1 << half;
             }
             for (int g = 0; g < pool.guests; g++) {
@@ -1412,9 +1409,10 @@ public final class PoolTowels {
         private void takeBest(int guest, int half) {
             int best = NONE;
             int most = NONE;
+            int start = half < pool.from[guest] ? pool.from[guest] : half;
             for (int c = 0; c < pool.chairs; c++) {
                 if ((free >> c & 1) != 0) {
-                    int value = pool.value(guest, c, half);
+                    int value = Pool.stretch(pool.ahead[c], pool.behind[c], start, pool.till[guest]);
                     if (value > most) {
                         most = value;
                         best = c;
